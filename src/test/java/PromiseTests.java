@@ -188,6 +188,23 @@ public final class PromiseTests {
         due.is("no z", Due.laid("p1;sa,0,1;").count(2), 20);
         due.is("z0", Due.laid("p1;sa,0,1;z0;").count(2), 0);
         faultBetweenLeavesLaid();
+        fewerPressesThanBefore();
+    }
+
+    private static void fewerPressesThanBefore() {
+        NotePress x = Due.laid("p1;p2;p3;sa,0,1,2,3;sb,0,1,1,1;");
+        for (int lays = 0; lays < 3; lays++) {
+            x.run(0, 1, 1);
+            x.run(0, 2, 3);
+            x.run(1, 2, 1);
+            Due.rewrite(x, lays < 1 ? "p1;p2;p3;sa,0,1,2,3;sb,0,1,1,1;" : "p4;sa,0,1;");
+            x.lay();
+        }
+        counts(x, 1, 1, 20, 0, 0, 0, 0, 0, 0, 10);
+        seriesIs(x, 0, 1, 0, 4, 0, 0, 1, 1, 0);
+        due.is("no press 1", x.share(0, 1, 0), BAD);
+        due.is("no series 1", x.series(1, 0), BAD);
+        due.is("no number of press 1", x.where(0, 4, 0), BAD);
     }
 
     private static void faultBetweenLeavesLaid() {
@@ -466,6 +483,10 @@ public final class PromiseTests {
         whereIs(x, 13, 2, 0, 1);
         whereIs(x, 17, 2, 4, 1);
         whereIs(x, 22, 2, 4, 2);
+        NotePress oneSheet = Due.laid("p1;p8;sa,0,1,1;");
+        whereIs(oneSheet, 0, 0, 0, 0);
+        whereIs(oneSheet, 1, 1, 0, 0);
+        whereIs(oneSheet, 8, 1, 0, 7);
         for (int what = 0; what < 3; what++) {
             due.is("no such number", x.where(0, 23, what), BAD);
             due.is("no such number", x.where(0, -1, what), BAD);

@@ -1,6 +1,6 @@
 /**
  * Notes printed as money: series dealt to presses, their checks, what is printed and spoiled, and the stars
- * that stand for spoiled notes. Words in capitals in the document (SERIES, SHARE, STAR ..) keep their sense here.
+ * that stand for spoiled notes. The words that the document has in capitals keep their sense here.
  *
  * All rows are made once, in the constructor: no call makes an object.
  */

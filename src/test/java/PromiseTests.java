@@ -78,6 +78,12 @@ public final class PromiseTests {
         due.is("write behind 200", x.write('z'), FULL);
         due.is("write behind 200, BAD first", x.write(31), BAD);
         due.is("count(9)", x.count(9), 200);
+        NotePress all = new NotePress();
+        for (int letter = -40; letter <= 300; letter++) {
+            boolean told = letter >= 32 && letter <= 126;
+            due.is("write(" + letter + ")", all.write(letter), told ? letter - 31 : BAD);
+        }
+        due.is("all letters", all.count(9), 95);
     }
 
     private static void wipe() {

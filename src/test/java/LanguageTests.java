@@ -84,14 +84,23 @@ public final class LanguageTests {
                 due.holds(method + " bears a name of the face", !faceNames.contains(method.getName()));
                 due.holds(method + " takes over seven parameters", method.getParameterCount() <= 7);
             }
-            for (Field field : nested.getDeclaredFields()) {
-                due.holds(field + " is static and not final", !Modifier.isStatic(field.getModifiers())
-                    || Modifier.isFinal(field.getModifiers()));
-            }
+            staticFields(nested);
         }
+        staticFields(NotePress.class);
         for (Method method : NotePress.class.getDeclaredMethods()) {
             due.holds(method + " bears a name of the face", !Modifier.isPrivate(method.getModifiers())
                 || !faceNames.contains(method.getName()));
+        }
+    }
+
+    private static void staticFields(Class<?> owner) {
+        Set<Class<?>> types = new HashSet<>(Arrays.asList(int.class, long.class, boolean.class, char.class, String.class,
+            int[].class, long[].class, char[].class, byte[].class));
+        for (Field field : owner.getDeclaredFields()) {
+            if (Modifier.isStatic(field.getModifiers())) {
+                due.holds(field + " is static and not final", Modifier.isFinal(field.getModifiers()));
+                due.holds(field + " is static and of another type", types.contains(field.getType()));
+            }
         }
     }
 
